@@ -945,36 +945,42 @@ public final class LateLetters {
 
         /** Whether a letter can stand at its place, all ahead of it being as they should. */
         private boolean fits(int place) {
+            if (place < HEAD) {
+                return fitsInHead(place);
+            }
+            int start = planStart();
+            if (place < start) {
+                return isFigure(place, 1, (place - HEAD) % 2 == 0 ? MOST_DELAY : MOST_GAP);
+            }
+            return place < wholeLength() && fitsInPlan(place, start);
+        }
+
+        private boolean fitsInHead(int place) {
             switch (place) {
-                case 0:
-                    return at(letters, place) == 'T';
                 case PLACE_OF_NEWS:
                     return isFigure(place, 1, MOST_NEWS);
                 case PLACE_OF_PEOPLE:
                     return isFigure(place, 1, MOST_PEOPLE);
                 default:
-                    break;
+                    return at(letters, place) == 'T';
             }
-            if (place < planStart()) {
-                return isFigure(place, 1, (place - HEAD) % 2 == 0 ? MOST_DELAY : MOST_GAP);
-            }
-            return place < wholeLength() && fitsInPlan(place);
         }
 
-        private boolean fitsInPlan(int place) {
+        private boolean fitsInPlan(int place, int start) {
             int figure = figureAt(place);
-            switch ((place - planStart()) % 3) {
+            switch ((place - start) % 3) {
                 case 0:
                     return at(letters, place) == 't';
                 case 1:
-                    return isFigure(place, 1, figureAt(PLACE_OF_PEOPLE) - 1) && !standsAhead(figure, place);
+                    return isFigure(place, 1, figureAt(PLACE_OF_PEOPLE) - 1) && !stands(figure, start, place);
                 default:
-                    return figure == 0 || standsAhead(figure, place - 1);
+                    return figure == 0 || stands(figure, start, place - 1);
             }
         }
 
-        private boolean standsAhead(int person, int end) {
-            for (int place = planStart() + 1; place < end; place += 3) {
+        /** Whether a PERSON stands in THE PLAN that begins at start, ahead of the place end. */
+        private boolean stands(int person, int start, int end) {
+            for (int place = start + 1; place < end; place += 3) {
                 if (figureAt(place) == person) {
                     return true;
                 }
