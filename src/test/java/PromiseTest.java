@@ -143,6 +143,11 @@ public final class PromiseTest {
             sixty.append('0');
         }
         due("4: a full TEXT", faultOf(sixty.toString()), 40);
+        LateLetters x = new LateLetters();
+        Due.write(x, "xx0");
+        x.wipe();
+        due("4: wiped letters do not count", x.fault(), 0);
+        due("4: nor for a TELLING", x.telling(), LATE);
     }
 
     private static void telling() {
@@ -284,6 +289,8 @@ public final class PromiseTest {
         due("9: NEWS 2", x.knows(0, 2), UNKNOWN);
         due("9: NEWS -1", x.knows(0, -1), UNKNOWN);
         due("9: most", x.knows(1, MOST), UNKNOWN);
+        x.set(1, 0, 5);
+        due("9: a DELAY told anew", x.knows(3, 1), 12);
         // 1 KNOWS NEWS 1 at 2 but begins it only at 9, when GAP 4 has twice gone by since 1.
         LateLetters y = Due.told("T2411141111t10t21t31");
         due("9: known early", y.knows(1, 1), 2);
@@ -300,6 +307,8 @@ public final class PromiseTest {
         due("10: NEWS -1", x.last(-1), UNKNOWN);
         due("10: most", x.last(MOST), UNKNOWN);
         due("10: of one", new LateLetters().last(0), 0);
+        x.set(1, 0, 5);
+        due("10: a DELAY told anew", x.last(1), 12);
         x.wipe();
         Due.write(x, "T3195");
         x.telling();
@@ -331,6 +340,9 @@ public final class PromiseTest {
         LateLetters y = Due.told("T151111111111t20t10t42t31");
         y.move(2, 3);
         due("11: all that it tells goes along", row(y), 10312342);
+        LateLetters z = Due.told("T1411111111t30t10t21");
+        z.move(1, 3);
+        due("11: those at the end keep their row", row(z), 301321);
     }
 
     private static void change() {
@@ -509,6 +521,8 @@ public final class PromiseTest {
         due("18: NEWS 2", x.knowers(2, 0), UNKNOWN);
         due("18: UNKNOWN is named first", x.knowers(-1, -1), UNKNOWN);
         due("18: most", x.knowers(0, MOST), BAD);
+        x.set(0, 0, 1);
+        due("18: a DELAY told anew", x.knowers(0, 1), 3);
     }
 
     private static void judge() {
@@ -537,6 +551,9 @@ public final class PromiseTest {
         due("19: LAST of 34", x.judge(1, 534), NONE);
         due("19: NEWS 0 by TICK 9", x.judge(1, 619), NONE);
         due("19: NEWS 0 at TICK 14", x.judge(1, 629), 0);
+        LateLetters y = Due.told(FOUR);
+        due("19: asked behind a DELAY told", y.judge(2, 401611), NONE);
+        due("19: asked of itself", y.judge(1, 611), 0);
         due("19: of one", new LateLetters().judge(4, 300500600700L), NONE);
     }
 
@@ -737,6 +754,13 @@ public final class PromiseTest {
         due("28: THE TEXT is not kept", x.about(8), 21);
         x.set(1, 0, 9);
         due("28: once more", x.again(1) * 10 + x.person(1, 0), 91);
+        x.keep(0);
+        x.keep(1);
+        due("28: each SLOT by itself", x.again(0) * 100 + x.again(1), 909);
+        x.telling();
+        x.wipe();
+        Due.write(x, FOUR);
+        x.telling();
         due("28: LATE leaves the ACTS", x.set(1, 0, 2) * 100 + x.again(0) * 10 + x.about(6), 100 - 30 + 1);
     }
 }
