@@ -1,7 +1,7 @@
 /**
  * Telling all when each letter takes its time.
  *
- * <p>The words in capitals are those of the document (shared/DOC.md); the numbers are its promises.
+ * <p>The words in capitals are those of the document (shared/DOC.md), which says what each call answers.
  * Every row is made in a constructor and used again, so that no call makes an object.
  */
 public final class LateLetters {
@@ -547,7 +547,7 @@ public final class LateLetters {
         return greater;
     }
 
-    /** All rows are read and written through these two, so that no index can be outside of one. */
+    /** Rows of int are read and written through these two, so that no index can be outside of one. */
     private static int at(int[] row, int i) {
         return i >= 0 && i < row.length ? row[i] : 0;
     }
