@@ -123,8 +123,18 @@ public final class AskedEdgeTest {
         s.is("of three, slow", Due.told("T13959595t10t21").about(4), 14);
         // 0 tells 2 by 1, 2 (DELAY 3) tells 1 by 4; by 1 (DELAY 4) it would be 5, by 0 alone (GAP 5) 6.
         s.is("of three, by who tells", Due.told("T13154135t10t20").about(4), 4);
+        s.is("of three, by 1", Due.told("T13153541t10t20").about(4), 4);
+        s.is("of three, by 0 alone", Due.told("T13119595t10t20").about(4), 2);
         // All DELAYS but PERSON 0's are 2; 2 (GAP 1), told by 1, tells by 3 and 4; by 3 (GAP 2) it would be 5.
         s.is("of four, by a GAP", Due.told("T1415252122t10t20t30").about(4), 4);
+        s.is("of four, by 1's GAP", Due.told("T1415212225t10t20t30").about(4), 4);
+        s.is("of four, by 3's GAP", Due.told("T1415252221t10t20t30").about(4), 4);
+        // QUICK: 0 tells 1 (DELAY 2, GAP 5) by 1, 1 tells by 3 and 8, 2 (told by 3) by 6. BEST: 2 (DELAY 3, GAP 1) by 1, 4, 5.
+        LateLetters slower = Due.told("T1415253191t10t20t30");
+        s.is("BEST is less than QUICK", slower.about(4), 5);
+        s.is("QUICK is more than BEST", slower.about(3), 6);
+        // 0 tells 3 by 2; then 0 by 6, 3 (DELAY 4, GAP 1) by 6 and 7. By 4 (DELAY 2, GAP 5) it would be 4, 6 and 8.
+        s.is("of five", Due.told("T152462514125t10t20t30t40").about(4), 7);
     }
 
     /** 0 tells 1 and 2; 1 tells 7 (by 2); 2, 3, 4, 5 and 6 are a chain, by 2, 11, 20, 29 and 29 more than DELAY of 5. */
@@ -164,6 +174,9 @@ public final class AskedEdgeTest {
         for (int[] one : due) {
             s.is("by " + one[0], x.knowers(0, one[0]), one[1]);
         }
+        x.set(1, 0, 9);
+        s.is("a DELAY told anew: 7 not by 9", x.knowers(0, 9), 7);
+        s.is("but by 10", x.knowers(0, 10), 135);
         s.is("of one", new LateLetters().knowers(0, 0), 1);
     }
 
@@ -294,7 +307,8 @@ public final class AskedEdgeTest {
             }
         }
         judged(Look.star(1, 8), new long[][] {
-            {2, 112721, Look.NONE}, {2, 200612, Look.NONE}, {2, 300503, Look.NONE}, {2, 409515, Look.NONE},
+            {2, 112721, Look.NONE}, {2, 300503, Look.NONE}, {2, 409515, Look.NONE}, {2, 200621, Look.NONE}, {2, 200611, 1},
+            {2, 200612, Look.NONE}, {2, 403612, 1}, {2, 403613, Look.NONE}, {3, 403613403L, Look.NONE}, {3, 404402612L, Look.NONE},
             {4, 507507507507L, Look.NONE}, {4, 611611611611L, Look.NONE}, {4, 707707707707L, Look.NONE}
         });
     }
@@ -515,6 +529,7 @@ public final class AskedEdgeTest {
         x.set(0, 2, 3);
         x.move(3, 0);
         x.keep(1);
+        s.is("ACTS stay when they are kept", x.about(6), 4);
         x.quicken();
         s.is("SLOT 0", x.again(0), 9);
         s.same("DELAYS", Look.all(x, 0), Look.row(3, 1, 4, 2));

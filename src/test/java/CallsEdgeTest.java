@@ -296,7 +296,10 @@ public final class CallsEdgeTest {
 
     private static void quicken() {
         s.of("`int quicken()`: QUICKENED: LAST then.");
-        s.is("of one", new LateLetters().quicken(), 0);
+        LateLetters one = new LateLetters();
+        s.is("of one", one.quicken(), 0);
+        s.is("an ACT of one", one.about(6), 1);
+        s.is("undone of one", one.undo(), 0);
         s.is("of two", Due.told("T329511t10").quicken(), 19);
         LateLetters x = Due.told(Look.EIGHT);
         s.is("of 8", x.quicken(), 13);
@@ -549,6 +552,11 @@ public final class CallsEdgeTest {
         s.is("SLOT 1 anew", x.keep(1), 13);
         s.is("SLOT 0 as it was", x.again(0), 23);
         s.is("SLOT 1 as it is", x.again(1), 13);
+        x.set(0, 0, 9);
+        x.keep(0);
+        s.is("ACTS stay", x.about(6), 1);
+        s.is("and can be undone", x.undo(), 0);
+        s.is("so that it is as it was", x.person(0, 0), 2);
         s.is("of one", new LateLetters().keep(0), 0);
     }
 

@@ -149,7 +149,10 @@ public final class RefusalsEdgeTest {
         s.is("move: UNKNOWN, LATE: no PERSON by itself", x.move(8, 8), Look.UNKNOWN);
         s.is("move: UNKNOWN, LATE: less than 0 by itself", x.move(-1, -1), Look.UNKNOWN);
         s.is("set: UNKNOWN, BAD what", x.set(8, 3, 1), Look.UNKNOWN);
+        s.is("set: UNKNOWN, BAD what", x.set(-1, -1, 1), Look.UNKNOWN);
         s.is("set: UNKNOWN, BAD v", x.set(8, 0, 10), Look.UNKNOWN);
+        s.is("set: UNKNOWN, BAD v", x.set(8, 1, 0), Look.UNKNOWN);
+        s.is("set: UNKNOWN, BAD v", x.set(-1, 2, 4), Look.UNKNOWN);
         s.is("set: UNKNOWN, m of another", x.set(8, 2, 1), Look.UNKNOWN);
         s.is("set: BAD what, BAD v", x.set(1, 2, 4), Look.BAD);
         s.is("number: UNKNOWN, BAD", x.number(8, 61), Look.UNKNOWN);

@@ -193,6 +193,13 @@ public final class TellingEdgeTest {
         s.is("of one", one.last(0), 0);
         s.is("of one, of all", one.about(2), 0);
         s.is("of two", Due.told("T129511t10").last(0), 9);
+        x.set(0, 0, 9);
+        s.is("of NEWS 0, a DELAY told anew", x.last(0), 11);
+        Look.tell(x, "T221111t10");
+        s.is("2 and 3 are not there any more", x.last(1), 2);
+        Look.tell(x, "T2111");
+        s.is("nor is 1", x.last(1), 0);
+        s.is("nor for NEWS 0", x.last(0), 0);
     }
 
     private static void text() {
@@ -446,6 +453,7 @@ public final class TellingEdgeTest {
     private static void quickTold() {
         s.of("tells the one that is not told with the least DELAY (of like ones the least GAP, then the least number)");
         s.same("DELAY, GAP, number", quick("T151131252424t10t20t30t40"), Look.row(30, 40, 20, 13));
+        s.same("a greater GAP behind a less one", quick("T1411242522t10t20t30"), Look.row(30, 10, 20));
         s.same("DELAY ahead of GAP", quick("T13912115t10t20"), Look.row(20, 10));
     }
 
